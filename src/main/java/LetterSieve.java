@@ -837,8 +837,10 @@ public final class LetterSieve {
         }
 
         private void putAside(Row row) {
-            System.arraycopy(row.learnt, 0, earlier, 0, row.learntSize);
             earlierSize = row.learntSize;
+            for (int i = 0; i < earlierSize; i++) {
+                earlier[i] = row.learnt[i];
+            }
             row.learntSize = 0;
         }
 

@@ -6,15 +6,21 @@ final class Checks {
 
     private static int asked = 0;
     private static int wrong = 0;
+    private static String sentence = "";
 
     private Checks() {
+    }
+
+    /** The sentence of the document that the answers from here on are due by. */
+    static void says(String quoted) {
+        sentence = "'" + quoted + "': ";
     }
 
     static void due(String what, int got, int want) {
         asked++;
         if (got != want) {
             wrong++;
-            System.out.println(what + " answered " + got + ", due is " + want);
+            System.out.println(sentence + what + " answered " + got + ", due is " + want);
         }
     }
 
@@ -50,5 +56,33 @@ final class Checks {
     static int tell(LetterSieve sieve, String text) {
         tape(sieve, text);
         return sieve.hand();
+    }
+
+    /** A text on a new object, with the FAULT that is due. */
+    static void fault(String text, int place, int kind) {
+        LetterSieve sieve = new LetterSieve();
+        due("hand() of '" + text + "'", tell(sieve, text), -2 - (1 + 8 * place + kind));
+        due("HAND RULES behind '" + text + "'", sieve.count(1), 0);
+    }
+
+    /** A text on a new object that is a RULE: its FOLDER and CODES are due. */
+    static void taken(String text, int folder, int... codes) {
+        LetterSieve sieve = new LetterSieve();
+        due("hand() of '" + text + "'", tell(sieve, text), 0);
+        dueRule("'" + text + "'", sieve, 0, folder, codes);
+    }
+
+    static void dueRule(String what, LetterSieve sieve, int k, int folder, int... codes) {
+        due(what + " FOLDER", sieve.rule(k, 1), folder);
+        due(what + " TESTS", sieve.rule(k, 2), codes.length);
+        for (int i = 0; i < 4; i++) {
+            int code = i < codes.length ? codes[i] : NONE;
+            due(what + " CODE " + i, sieve.rule(k, 10 + i), code);
+        }
+    }
+
+    /** A LETTER that is from 0, without a LIST, a SIZE and WORDS, unless told. */
+    static int plain(LetterSieve sieve, int from) {
+        return sieve.letter(from, NONE, 0, 0);
     }
 }

@@ -4,22 +4,20 @@ import java.util.Random;
 /** Runs of 512 calls, drawn from fixed seeds, on the class and on PlainSieve side by side. */
 public final class RandomRunsTest {
     private static final int RUNS = 120;
-    private static final int CALLS = 512;
     private static final String[] KINDS = {"from", "list", "word", "above", "below"};
     private static final int[] GREATEST = {15, 7, 15, 999, 999};
 
     private final Random random;
-    private final LetterSieve sieve = new LetterSieve();
-    private final PlainSieve plain = new PlainSieve();
+    private final Beside sieves;
     private final int run;
     /** How many of the senders, lists and words are used: few make many ties and common codes. */
     private final int variety;
     private final int talk;
-    private int calls = 0;
 
     private RandomRunsTest(int run) {
         this.run = run;
         this.random = new Random(run);
+        this.sieves = new Beside("run " + run);
         this.variety = 2 + random.nextInt(15);
         this.talk = random.nextInt(3);
     }
@@ -31,16 +29,11 @@ public final class RandomRunsTest {
         Checks.finish("RandomRunsTest");
     }
 
-    private void due(String call, int got, int want) {
-        calls++;
-        Checks.due("run " + run + " call " + calls + ": " + call, got, want);
-    }
-
     private void play() {
         if (random.nextInt(3) == 0) {
             changeCosts();
         }
-        while (calls < CALLS) {
+        while (!sieves.isOver()) {
             int draw = random.nextInt(100);
             if (draw < 4 + 4 * talk) {
                 tellRule();
@@ -49,15 +42,14 @@ public final class RandomRunsTest {
             } else if (draw < 62) {
                 belong();
             } else if (draw < 65) {
-                due("undo()", sieve.undo(), plain.undo());
+                sieves.undo();
             } else if (draw < 69) {
                 learn();
             } else if (draw < 71) {
                 int n = random.nextInt(4) == 0 ? odd(101) : 1 + random.nextInt(60);
-                due("fade(" + n + ")", sieve.fade(n), plain.fade(n));
+                sieves.fade(n);
             } else if (draw < 73) {
-                int rule = odd(10);
-                due("drop(" + rule + ")", sieve.drop(rule) ? 1 : 0, plain.drop(rule));
+                sieves.drop(odd(10));
             } else {
                 look();
             }
@@ -84,8 +76,7 @@ public final class RandomRunsTest {
         for (int i = 0; i < 6; i++) {
             int what = random.nextInt(3) == 0 ? odd(2) : 10 + odd(8);
             int coins = random.nextInt(3) == 0 ? odd(1001) : odd(12);
-            due("cost(" + what + ", " + coins + ")", sieve.cost(what, coins),
-                    plain.cost(what, coins));
+            sieves.cost(what, coins);
         }
     }
 
@@ -133,12 +124,11 @@ public final class RandomRunsTest {
             for (int i = 0; i < 20 && from + i < bytes.length; i++) {
                 five[i / 4] |= (bytes[from + i] & 255) << 24 - i % 4 * 8;
             }
-            due("feed", sieve.feed(five[0], five[1], five[2], five[3], five[4]), plain.feed(five));
+            sieves.feed(five);
         }
-        int end = random.nextInt(15) == 0 ? odd(101) : bytes.length;
-        due("end(" + end + ")", sieve.end(end), plain.end(end));
+        sieves.end(random.nextInt(15) == 0 ? odd(101) : bytes.length);
         if (random.nextInt(20) != 0) {
-            due("hand() of '" + text + "'", sieve.hand(), plain.hand());
+            sieves.hand();
         }
     }
 
@@ -148,22 +138,21 @@ public final class RandomRunsTest {
         int size = random.nextInt(40) == 0 ? odd(1000) : random.nextInt(1000);
         int words = random.nextInt(40) == 0 ? odd(65536)
                 : random.nextInt(65536) & random.nextInt(65536) & (1 << Math.min(16, variety)) - 1;
-        due("letter(" + from + ", " + list + ", " + size + ", " + words + ")",
-                sieve.letter(from, list, size, words), plain.letter(from, list, size, words));
+        sieves.letter(from, list, size, words);
     }
 
     /** A move, mostly by a habit that can be learnt. */
     private void belong() {
-        int letter = random.nextInt(20) == 0 ? odd(100) : random.nextInt(plain.count(0) + 1);
+        int there = sieves.plain().count(0);
+        int letter = random.nextInt(20) == 0 ? odd(100) : random.nextInt(there + 1);
         int folder = random.nextInt(6) == 0 ? odd(8) : habit(letter);
-        due("move(" + letter + ", " + folder + ")", sieve.move(letter, folder) ? 1 : 0,
-                plain.move(letter, folder));
+        sieves.move(letter, folder);
     }
 
     private int habit(int letter) {
         int[] codes = {run % 16, 16 + run % 8, 24 + run % 5, 27 + run % 3, 24, 0};
         for (int i = 0; i < codes.length; i++) {
-            if (plain.passes(letter, codes[i])) {
+            if (sieves.plain().passes(letter, codes[i])) {
                 return (run + 3 * i) % 8;
             }
         }
@@ -171,61 +160,29 @@ public final class RandomRunsTest {
     }
 
     private void learn() {
-        due("learn()", sieve.learn(), plain.learn());
+        sieves.learn();
         for (int what = 0; what < 5; what++) {
-            due("learnt(" + what + ")", sieve.learnt(what), plain.learnt(what));
+            sieves.look(0, what);
         }
-        int k = plain.count(1) + random.nextInt(6);
+        int k = sieves.plain().count(1) + random.nextInt(6);
         for (int what = 0; what < 3; what++) {
-            due("rule(" + k + ", " + what + ")", sieve.rule(k, what), plain.rule(k, what));
+            sieves.look(0, k, what);
         }
     }
 
     private void look() {
-        int a = odd(17);
-        int b = odd(17);
-        int what = odd(6);
-        switch (random.nextInt(11)) {
-            case 0:
-                due("rule(" + a + ", " + b + ")", sieve.rule(a, b), plain.rule(a, b));
-                break;
-            case 1:
-                due("record(" + a + ", " + what + ")", sieve.record(a, what),
-                        plain.record(a, what));
-                break;
-            case 2:
-                due("both(" + a + ", " + b + ")", sieve.both(a, b), plain.both(a, b));
-                break;
-            case 3:
-                int letter = odd(100);
-                due("about(" + letter + ", " + what + ")", sieve.about(letter, what),
-                        plain.about(letter, what));
-                break;
-            case 4:
-                int n = random.nextBoolean() ? odd(101) : odd(8);
-                due("heap(" + n + ")", sieve.heap(n), plain.heap(n));
-                break;
-            case 5:
-                int code = odd(41);
-                due("heaped(" + code + ")", sieve.heaped(code), plain.heaped(code));
-                break;
-            case 6:
-                due("again()", sieve.again(), plain.again());
-                break;
-            case 7:
-                int k = odd(40);
-                due("differs(" + k + ")", sieve.differs(k), plain.differs(k));
-                break;
-            case 8:
-                int folder = 20 + odd(8);
-                due("count(" + folder + ")", sieve.count(folder), plain.count(folder));
-                break;
-            case 9:
-                due("count(" + what + ")", sieve.count(what), plain.count(what));
-                break;
-            default:
-                due("learnt(" + what + ")", sieve.learnt(what), plain.learnt(what));
-                break;
+        int[] bounds = {6, random.nextBoolean() ? 101 : 8, 41, 40, 6};
+        int call = random.nextInt(11);
+        if (call < 3) {
+            sieves.look(call, odd(17), odd(call == 1 ? 6 : 17));
+        } else if (call == 3) {
+            sieves.look(call, odd(100), odd(6));
+        } else if (call < 9) {
+            sieves.look(call - 4, odd(bounds[call - 4]));
+        } else if (call == 9) {
+            sieves.look(4, 20 + odd(8));
+        } else {
+            sieves.again();
         }
     }
 }
