@@ -16,14 +16,17 @@ public final class EdgesOfLearningTest {
         ofThatFolder();
         dearest();
         sixAtMost();
+        sixAgain();
         lettersItGoesBy();
         noHandRule();
+        eachHandRule();
         behindTheOthers();
         fewestTests();
         leastFirstCode();
         leastSecondCode();
         leastFolder();
         kindsOfTests();
+        pairsOfCodes();
         anew();
         latestLearn();
         changed();
@@ -31,6 +34,7 @@ public final class EdgesOfLearningTest {
         changedByFading();
         names();
         nameOfOneThatWasGone();
+        namesOfPairs();
         otherRuleAsked();
         codesInOrder();
         record();
@@ -385,6 +389,103 @@ public final class EdgesOfLearningTest {
         }
         due("two words", z.learn(), 1);
         Checks.dueRule("two words", z, 0, 5, 24, 25);
+    }
+
+    /** LETTERS that only two TESTS together tell apart from others. */
+    private static LetterSieve taughtPair(int folder, int[] both, int[] one, int[] other) {
+        LetterSieve x = new LetterSieve();
+        for (int i = 0; i < 4; i++) {
+            x.move(x.letter(both[0] + i * both[3], both[1], 0, both[2]), folder);
+            if (i < 2) {
+                x.move(x.letter(one[0] + i * one[3], one[1], 0, one[2]), 0);
+                x.move(x.letter(other[0] + i * other[3], other[1], 0, other[2]), 0);
+            }
+        }
+        return x;
+    }
+
+    private static void pairsOfCodes() {
+        says("of two unlike ones (from, list, word)");
+        LetterSieve least = taughtPair(1, new int[] {0, 0, 0, 0}, new int[] {0, NONE, 0, 0},
+                new int[] {5, 0, 0, 1});
+        due("from 0, list 0", least.learn(), 1);
+        Checks.dueRule("from 0, list 0", least, 0, 1, 0, 16);
+        LetterSieve far = taughtPair(7, new int[] {0, NONE, 0x8000, 0}, new int[] {0, NONE, 0, 0},
+                new int[] {5, NONE, 0x8000, 1});
+        due("from 0, word 15", far.learn(), 1);
+        Checks.dueRule("from 0, word 15", far, 0, 7, 0, 39);
+        LetterSieve greatest = taughtPair(1, new int[] {0, NONE, 0xc000, 1},
+                new int[] {5, NONE, 0x8000, 1}, new int[] {8, NONE, 0x4000, 1});
+        due("words 14, 15", greatest.learn(), 1);
+        Checks.dueRule("words 14, 15", greatest, 0, 1, 38, 39);
+        LetterSieve lists = taughtPair(2, new int[] {15, 7, 0, 0}, new int[] {15, NONE, 0, 0},
+                new int[] {5, 7, 0, 1});
+        due("from 15, list 7", lists.learn(), 1);
+        Checks.dueRule("from 15, list 7", lists, 0, 2, 15, 23);
+    }
+
+    private static void namesOfPairs() {
+        says("A LEARNT RULE that is LEARNT again is the same RULE, its RECORD goes on");
+        LetterSieve x = taughtPair(2, new int[] {0, 0, 0, 0}, new int[] {0, NONE, 0, 0},
+                new int[] {5, 0, 0, 1});
+        x.learn();
+        x.letter(0, 0, 0, 0);
+        x.learn();
+        due("the same", x.rule(0, 0), 100);
+        dueRecord("goes on", x, 0, 1, 0, 0, 8);
+        due("names", x.count(5), 1);
+        for (int i = 0; i < 8; i++) {
+            x.move(i, 0);
+        }
+        for (int i = 0; i < 4; i++) {
+            x.move(x.letter(0, 1, 0, 0), 2);
+        }
+        x.learn();
+        Checks.dueRule("another second CODE", x, 0, 2, 17);
+        x.move(x.letter(7, 1, 0, 0), 0);
+        x.move(x.letter(8, 1, 0, 0), 0);
+        x.learn();
+        Checks.dueRule("another second CODE", x, 0, 2, 0, 17);
+        due("another RULE", x.rule(0, 0), 102);
+        dueRecord("of its own", x, 0, 0, 0, 0, NONE);
+    }
+
+    private static void eachHandRule() {
+        says("that no HAND RULE there FITS");
+        LetterSieve x = taught(3, 5, 4);
+        for (int number = 0; number < 10; number++) {
+            Checks.tell(x, "if from 8 to 1");
+        }
+        for (int number = 0; number < 10; number++) {
+            x.drop(number);
+            Checks.tell(x, "if from 3 to 1");
+            due("HAND RULE " + number + " fits", x.learn(), 0);
+            dueLearnt("of none", x, 0, 0, 0);
+            x.drop(number);
+            due("it went", x.learn(), 1);
+            Checks.tell(x, "if from 8 to 1");
+            due("it fits others", x.learn(), 1);
+            dueLearnt("of all", x, 4, 8, 4);
+        }
+    }
+
+    private static void sixAgain() {
+        says("LEARNT, 6 at most, anew");
+        LetterSieve x = new LetterSieve();
+        for (int g = 0; g < 8; g++) {
+            group(x, g, 1 + g % 7, 4);
+        }
+        x.learn();
+        due("six again", x.learn(), 6);
+        dueLearnt("the same", x, 40, 64, 32, 0, 0);
+        group(x, 14, 1, 9);
+        group(x, 15, 2, 8);
+        due("six, two of them new", x.learn(), 6);
+        dueLearnt("two others gone", x, 56, 98, 49, 2, 2);
+        int[] names = {106, 107, 100, 101, 102, 103};
+        for (int k = 0; k < 6; k++) {
+            due("the name at " + k, x.rule(k, 0), names[k]);
+        }
     }
 
     private static void anew() {

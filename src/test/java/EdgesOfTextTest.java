@@ -184,20 +184,24 @@ public final class EdgesOfTextTest {
         Checks.taken("if from3and list2to 1", 1, 3, 18);
         String[] first = {"ALL to 1", "All to 1", "alL to 1", "al l to 1", "alll to 1", "a to 1",
             "iff from 1 to 1", "i from 1 to 1", "If from 1 to 1", "to 1", "and from 1 to 1",
-            "from 1 to 1", "allto 1", "ifrom 1 to 1", "1 to 1"};
+            "from 1 to 1", "allto 1", "ifrom 1 to 1", "1 to 1", "ell to 1", "aal to 1", "of from 1 to 1",
+            "it from 1 to 1"};
         for (String text : first) {
             fault(text, 0, 0);
         }
         String[] tests = {"if fromm 1 to 1", "if fro 1 to 1", "if From 1 to 1", "if lists 1 to 1",
             "if words 1 to 1", "if wor 1 to 1", "if abov 1 to 1", "if abovee 1 to 1",
             "if belo 1 to 1", "if size 1 to 1", "if b 1 to 1", "if all to 1", "if if from 1 to 1",
-            "if and from 1 to 1", "if 1 to 1"};
+            "if and from 1 to 1", "if 1 to 1", "if prom 1 to 1", "if mist 1 to 1",
+            "if lord 1 to 1", "if ibove 1 to 1", "if relow 1 to 1"};
         for (String text : tests) {
             fault(text, 3, 0);
         }
         fault("all too 1", 4, 0);
         fault("all t 1", 4, 0);
         fault("all To 1", 4, 0);
+        fault("all so 1", 4, 0);
+        fault("if from 1 end list 1 to 1", 10, 0);
         fault("if from 1 an list 1 to 1", 10, 0);
         fault("if from 1 ands list 1 to 1", 10, 0);
         fault("if from 1 too 1", 10, 0);
